@@ -28,6 +28,7 @@ public final class CountedHeap {
     private static final int OP_JUMP_IF = 8;
     private static final int OP_NEW_BLOCK = 9;
     private static final int OP_COPY_POINTER = 10;
+    private static final int OP_NIL = 11;
     private static final int OP_SAME = 12;
     private static final int OP_CALL = 13;
     private static final int OP_RETURN = 14;
@@ -277,6 +278,7 @@ public final class CountedHeap {
                 return memory.makeBlock(y);
             case OP_COPY_POINTER:
                 return valueOf(y);
+            case OP_NIL:
             default:
                 return NIL;
         }

@@ -29,6 +29,7 @@ public final class PromisesTest {
         lost();
         collect();
         collectTakesCountsOff();
+        lastBlock();
         objectsAreApart();
         CHECK.done();
     }
@@ -481,6 +482,40 @@ public final class PromisesTest {
         append(heap, i(9, 4, 1, 0), i(9, 5, 1, 0), i(10, 17, 5, 0), i(10, 25, 4, 0), i(9, 6, 1, 0),
             i(10, 18, 6, 0), i(10, 26, 6, 0), i(9, 7, 1, 0), i(10, 41, 6, 0), i(11, 5, 0, 0), i(11, 6, 0, 0));
         CHECK.runs(heap, 11, 11);
+        return heap;
+    }
+
+    private static void lastBlock() {
+        CHECK.about("a ring of 24 blocks, promises 2, 17 and 18");
+        CountedHeap heap = ring();
+        CHECK.is("blocks", heap.blocks(), 24);
+        CHECK.is("typeOf(24)", heap.typeOf(24), 1);
+        CHECK.is("type 1 is used by block 24", heap.type(1, 1, 0), false);
+        CHECK.is("lost", heap.lost(), 0);
+        replace(heap, i(11, 4, 0, 0), i(11, 6, 0, 0), i(11, 5, 0, 0));
+        CHECK.runs(heap, 2, 2);
+        CHECK.is("lost", heap.lost(), 0);
+        CHECK.runs(heap, 1, 1);
+        CHECK.is("lost", heap.lost(), 24);
+        CHECK.is("given", heap.given(), 0);
+        CHECK.is("collect", heap.collect(), 24);
+        CHECK.is("given", heap.given(), 24);
+        CHECK.is("blocks", heap.blocks(), 0);
+        CHECK.is("count(24)", heap.count(24), -1);
+        CHECK.is("type 1 is free", heap.type(1, 1, 0), true);
+    }
+
+    /** Each block points to the one before, block 1 to 24; only 24 is of type 1; P0 and P1 point to 24, P2 to 1. */
+    private static CountedHeap ring() {
+        CountedHeap heap = new CountedHeap();
+        CHECK.is("type(0, 1, 1)", heap.type(0, 1, 1), true);
+        CHECK.is("type(1, 1, 1)", heap.type(1, 1, 1), true);
+        append(heap, i(9, 4, 0, 0), i(10, 6, 4, 0));
+        CHECK.runs(heap, 2, 2);
+        replace(heap, i(9, 5, 0, 0), i(10, 24, 4, 0), i(10, 4, 5, 0), i(7, 0, 0, 0));
+        CHECK.runs(heap, 4 * 22, 4 * 22);
+        replace(heap, i(9, 5, 1, 0), i(10, 24, 4, 0), i(10, 4, 5, 0), i(10, 32, 4, 0));
+        CHECK.runs(heap, 4, 4);
         return heap;
     }
 
