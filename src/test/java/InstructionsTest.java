@@ -1,14 +1,5 @@
 /** Each op, its faults and their order, and how pointers are counted ("Terms" of the document). */
-public final class InstructionsTest {
-    private static final int LOW = Integer.MIN_VALUE;
-    private static final int HIGH = Integer.MAX_VALUE;
-    private static final Class<?> STATE = IllegalStateException.class;
-    private static final Class<?> INDEX = IndexOutOfBoundsException.class;
-    private static final Class<?> ARGUMENT = IllegalArgumentException.class;
-    private static final Class<?> UNSUPPORTED = UnsupportedOperationException.class;
-
-    private static final Check CHECK = new Check();
-
+public final class InstructionsTest extends Bench {
     public static void main(String[] args) {
         numbersAndCopies();
         arithmetic();
@@ -29,28 +20,6 @@ public final class InstructionsTest {
         faultsInOrder();
         faultsChangeNothing();
         CHECK.done();
-    }
-
-    private static int[] i(int op, int x, int y, int z) {
-        return new int[] {op, x, y, z};
-    }
-
-    private static void load(CountedHeap heap, int[]... instructions) {
-        heap.clear();
-        for (int[] i : instructions) {
-            CHECK.is("add(" + i[0] + ", ..) is taken", heap.add(i[0], i[1], i[2], i[3]) >= 0, true);
-        }
-    }
-
-    private static void doAll(CountedHeap heap, int[]... instructions) {
-        load(heap, instructions);
-        CHECK.runs(heap, instructions.length, instructions.length);
-    }
-
-    private static void fault(CountedHeap heap, int[] instruction, Class<?> due) {
-        load(heap, instruction);
-        CHECK.faults(heap, 1, due);
-        CHECK.is("next", heap.next(), 0);
     }
 
     private static void numbersAndCopies() {
@@ -132,7 +101,7 @@ public final class InstructionsTest {
     private static void calls() {
         CHECK.about("ops 13 and 14");
         CountedHeap heap = new CountedHeap();
-        load(heap, i(13, 2, 0, 0), i(0, 0, 0, 0), i(13, 4, 0, 0), i(14, 0, 0, 0), i(14, 0, 0, 0));
+        replace(heap, i(13, 2, 0, 0), i(0, 0, 0, 0), i(13, 4, 0, 0), i(14, 0, 0, 0), i(14, 0, 0, 0));
         int[] places = {2, 4, 3, 1, 1};
         int[] open = {1, 2, 1, 0, 0};
         for (int k = 0; k < 5; k++) {
@@ -140,7 +109,7 @@ public final class InstructionsTest {
             CHECK.is("next", heap.next(), places[k]);
             CHECK.is("open", heap.open(), open[k]);
         }
-        load(heap, i(13, 0, 0, 0));
+        replace(heap, i(13, 0, 0, 0));
         CHECK.runs(heap, 8, 8);
         CHECK.is("open", heap.open(), 8);
         CHECK.faults(heap, 1, UNSUPPORTED);
@@ -237,15 +206,6 @@ public final class InstructionsTest {
         CHECK.is("root(1)", heap.root(1), 24);
         fault(heap, i(9, 5, 1, 0), UNSUPPORTED);
         CHECK.is("root(1)", heap.root(1), 24);
-    }
-
-    /** Blocks 1 .. length of type 0 (one pointer), each pointing to the one before; P0 and P1 point to the last. */
-    private static CountedHeap chain(int length) {
-        CountedHeap heap = new CountedHeap();
-        heap.type(0, 1, 1);
-        load(heap, i(9, 5, 0, 0), i(10, 24, 4, 0), i(10, 4, 5, 0), i(7, 0, 0, 0));
-        CHECK.runs(heap, 4 * length - 1, 4 * length - 1);
-        return heap;
     }
 
     private static void copyOntoItself() {
@@ -399,10 +359,10 @@ public final class InstructionsTest {
         CHECK.is("count(1)", heap.count(1), 1);
         CHECK.is("blocks", heap.blocks(), 1);
         CHECK.is("given", heap.given(), 0);
-        load(heap, i(1, 17, 3, 0));
+        replace(heap, i(1, 17, 3, 0));
         CHECK.faults(heap, 5, STATE);
         doAll(heap, i(9, 4, 0, 0));
-        load(heap, i(1, 16, 3, 0));
+        replace(heap, i(1, 16, 3, 0));
         CHECK.runs(heap, 5, 1);
         CHECK.is("the mended one is done", heap.word(2, 0), 3);
     }

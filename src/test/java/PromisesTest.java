@@ -1,11 +1,5 @@
 /** Each promise of the document by its number: ordinary inputs, the edges, wrong inputs. */
-public final class PromisesTest {
-    private static final long NO_WORD = 4294967296L;
-    private static final int LOW = Integer.MIN_VALUE;
-    private static final int HIGH = Integer.MAX_VALUE;
-
-    private static final Check CHECK = new Check();
-
+public final class PromisesTest extends Bench {
     public static void main(String[] args) {
         newObject();
         type();
@@ -32,27 +26,6 @@ public final class PromisesTest {
         lastBlock();
         objectsAreApart();
         CHECK.done();
-    }
-
-    private static CountedHeap program(int[]... instructions) {
-        CountedHeap heap = new CountedHeap();
-        append(heap, instructions);
-        return heap;
-    }
-
-    private static void append(CountedHeap heap, int[]... instructions) {
-        for (int[] i : instructions) {
-            CHECK.is("add(" + i[0] + ", ..) is taken", heap.add(i[0], i[1], i[2], i[3]) >= 0, true);
-        }
-    }
-
-    private static int[] i(int op, int x, int y, int z) {
-        return new int[] {op, x, y, z};
-    }
-
-    private static void replace(CountedHeap heap, int[]... instructions) {
-        heap.clear();
-        append(heap, instructions);
     }
 
     private static void newObject() {
@@ -266,7 +239,7 @@ public final class PromisesTest {
         CHECK.about("promise 6, wrong numbers");
         CountedHeap heap = program(i(1, 0, 1, 0));
         for (int n : new int[] {LOW, -1, 501, HIGH}) {
-            CHECK.faults(heap, n, IllegalArgumentException.class);
+            CHECK.faults(heap, n, ARGUMENT);
             CHECK.is("next", heap.next(), 0);
             CHECK.is("frame(0)", heap.frame(0), 0);
         }
@@ -275,12 +248,12 @@ public final class PromisesTest {
     private static void runKeepsWhatWasDone() {
         CHECK.about("promise 6, faults");
         CountedHeap heap = program(i(1, 0, 3, 0), i(9, 5, 0, 0), i(14, 0, 0, 0), i(1, 1, 3, 0));
-        CHECK.faults(heap, 4, IllegalStateException.class);
+        CHECK.faults(heap, 4, STATE);
         CHECK.is("frame(0)", heap.frame(0), 3);
         CHECK.is("root(1)", heap.root(1), 1);
         CHECK.is("frame(1)", heap.frame(1), 0);
         CHECK.is("next", heap.next(), 2);
-        CHECK.faults(heap, 1, IllegalStateException.class);
+        CHECK.faults(heap, 1, STATE);
         CHECK.is("next", heap.next(), 2);
         CHECK.runs(heap, 0, 0);
         CHECK.is("start(0)", heap.start(0), true);
@@ -487,7 +460,7 @@ public final class PromisesTest {
 
     private static void lastBlock() {
         CHECK.about("a ring of 24 blocks, promises 2, 17 and 18");
-        CountedHeap heap = ring();
+        CountedHeap heap = ringOfTwoTypes();
         CHECK.is("blocks", heap.blocks(), 24);
         CHECK.is("typeOf(24)", heap.typeOf(24), 1);
         CHECK.is("type 1 is used by block 24", heap.type(1, 1, 0), false);
@@ -506,7 +479,7 @@ public final class PromisesTest {
     }
 
     /** Each block points to the one before, block 1 to 24; only 24 is of type 1; P0 and P1 point to 24, P2 to 1. */
-    private static CountedHeap ring() {
+    private static CountedHeap ringOfTwoTypes() {
         CountedHeap heap = new CountedHeap();
         CHECK.is("type(0, 1, 1)", heap.type(0, 1, 1), true);
         CHECK.is("type(1, 1, 1)", heap.type(1, 1, 1), true);

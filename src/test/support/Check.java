@@ -1,8 +1,27 @@
 /** Collects answers that are not as due; a test ends with done(), which exits with 1 if there was one. */
 final class Check {
-    private String about = "";
+    private static final long MOST_MILLIS = 300_000L;
+
+    private volatile String about = "";
     private int wrong = 0;
     private int looked = 0;
+
+    Check() {
+        Thread watch = new Thread(this::endLate);
+        watch.setDaemon(true);
+        watch.start();
+    }
+
+    // A call that does not end breaks the document as a wrong answer does, and must not hold up the rest.
+    private void endLate() {
+        try {
+            Thread.sleep(MOST_MILLIS);
+        } catch (InterruptedException e) {
+            return;
+        }
+        System.out.println(about + ": a call does not end");
+        Runtime.getRuntime().halt(1);
+    }
 
     void about(String subject) {
         about = subject;
