@@ -42,6 +42,7 @@ public final class PromiseEdgesTest extends Bench {
         collectNoneAndAll();
         collectTogether();
         collectTakesOffInOthers();
+        collectTakesOffForEachWord();
         questionsChangeNothing();
         CHECK.done();
     }
@@ -685,6 +686,19 @@ public final class PromiseEdgesTest extends Bench {
             doAll(heap, i(11, 4, 0, 0));
             CHECK.is("which can give it back", heap.blocks(), 0);
             CHECK.is("given", heap.given(), 3);
+        }
+    }
+
+    private static void collectTakesOffForEachWord() {
+        CHECK.about("Promise 18: what their pointers counted in others is taken off, whichever word it is");
+        for (int w = 0; w < 6; w++) {
+            CountedHeap heap = new CountedHeap();
+            heap.type(0, 6, 63);
+            doAll(heap, i(9, 4, 1, 0), i(9, 5, 0, 0), i(10, 24 + (w + 1) % 6, 5, 0), i(10, 24 + w, 4, 0),
+                i(11, 5, 0, 0));
+            CHECK.is("count", heap.count(1), 2);
+            CHECK.is("collect", heap.collect(), 1);
+            CHECK.is("word " + w + " is taken off", heap.count(1), 1);
         }
     }
 
