@@ -404,7 +404,12 @@ public final class CountedHeap {
         }
 
         boolean isPointerWord(int b, int w) {
-            return hasWord(b, w) && ((maps[types[b]] >> w) & 1) == 1;
+            return hasWord(b, w) && isMapped(b, w);
+        }
+
+        // For b 1 .. 24, be it a block still or just given back; no map has bits from its type's size on.
+        private boolean isMapped(int b, int w) {
+            return ((maps[types[b]] >> w) & 1) == 1;
         }
 
         boolean isFull() {
@@ -489,8 +494,8 @@ public final class CountedHeap {
         }
 
         private void dropPointersOf(int b) {
-            for (int w = 0; w < sizes[types[b]]; w++) {
-                if (((maps[types[b]] >> w) & 1) == 1) {
+            for (int w = 0; w < MOST_WORDS; w++) {
+                if (isMapped(b, w)) {
                     countLess(cells[cellOfWord(b, w)]);
                 }
             }
