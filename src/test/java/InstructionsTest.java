@@ -153,8 +153,10 @@ public final class InstructionsTest extends Bench {
                 doAll(heap, i(2, 0, 16 + 8 * k + w, 0));
                 CHECK.is("read", heap.frame(0), 100 * k + w + 1);
             }
-            fault(heap, i(1, 16 + 8 * k + 6, 1, 0), INDEX);
-            fault(heap, i(1, 16 + 8 * k + 7, 1, 0), INDEX);
+            replace(heap, i(1, 16 + 8 * k + 6, 1, 0), i(1, 16 + 8 * k + 7, 1, 0));
+            CHECK.faults(heap, 1, INDEX);
+            heap.start(1);
+            CHECK.faults(heap, 1, INDEX);
         }
         doAll(heap, i(5, 16, 25, 34));
         CHECK.is("102 times 203", heap.word(1, 0), 102 * 203);
@@ -191,13 +193,12 @@ public final class InstructionsTest extends Bench {
 
     private static void fullHeap() {
         CHECK.about("24 blocks");
+        fault(chain(24), i(9, 4, 0, 0), UNSUPPORTED);
+        fault(chain(24), i(9, 16, 0, 0), UNSUPPORTED);
+        fault(chain(24), i(9, 0, 0, 0), ARGUMENT);
+        fault(chain(24), i(9, 32, 0, 0), STATE);
+        fault(chain(24), i(9, 23, 0, 0), INDEX);
         CountedHeap heap = chain(24);
-        CHECK.is("blocks", heap.blocks(), 24);
-        fault(heap, i(9, 4, 0, 0), UNSUPPORTED);
-        fault(heap, i(9, 16, 0, 0), UNSUPPORTED);
-        fault(heap, i(9, 0, 0, 0), ARGUMENT);
-        fault(heap, i(9, 32, 0, 0), STATE);
-        fault(heap, i(9, 23, 0, 0), INDEX);
         CHECK.is("blocks", heap.blocks(), 24);
         CHECK.is("given", heap.given(), 0);
         doAll(heap, i(11, 5, 0, 0), i(10, 4, 16, 0));
@@ -323,7 +324,6 @@ public final class InstructionsTest extends Bench {
 
     private static void faultsInOrder() {
         CHECK.about("the order of faults");
-        CountedHeap heap = withBlockAtP1();
         // 16 .. 23 are behind the nil P0: state; 26 .. 31 are no words of P1's block: index; 4 and 25 are pointers.
         int[] operands = {16, 26, 4, 0};
         Class<?>[] faults = {STATE, INDEX, ARGUMENT, null};
@@ -332,11 +332,12 @@ public final class InstructionsTest extends Bench {
                 for (int z = 0; z < 4; z++) {
                     Class<?> due = faults[x] != null ? faults[x] : faults[y] != null ? faults[y] : faults[z];
                     if (due != null) {
-                        fault(heap, i(3, operands[x], operands[y], operands[z]), due);
+                        fault(withBlockAtP1(), i(3, operands[x], operands[y], operands[z]), due);
                     }
                 }
             }
         }
+        CountedHeap heap = withBlockAtP1();
         fault(heap, i(12, 0, 0, 16), ARGUMENT);
         fault(heap, i(10, 0, 16, 0), ARGUMENT);
         fault(heap, i(10, 16, 0, 0), STATE);

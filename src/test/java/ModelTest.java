@@ -1,7 +1,13 @@
-/** Long made-up runs of calls, the class beside the plain model. The runs are the same at every start. */
+/**
+ * Made-up runs of calls, the class beside the plain model. The runs are the same at every start, and no object is
+ * asked more often than the 512 times for which the document answers.
+ */
 public final class ModelTest {
-    private static final int RUNS = 600;
-    private static final int CALLS = 200;
+    private static final int RUNS = 12000;
+    private static final int MOST_CALLS = 512;
+    // What lookAtAll() asks, and the most that one step of a run does and asks before it.
+    private static final int CALLS_OF_LOOK = 277;
+    private static final int CALLS_OF_STEP = 48;
 
     // By op: 'i' an int, 'p' a pointer, 'l' a place, 't' a type, '-' any number.
     private static final String[] NUMBERS = {
@@ -14,11 +20,13 @@ public final class ModelTest {
     private long seed = 20261116L;
     private CountedHeap heap = new CountedHeap();
     private Model model = new Model();
-    // In every other run pointers are mostly written where no block is given back by it, so that the heap fills up.
+    private int calls = 0;
+    // In every other run the heap begins nearly full, and pointers are mostly written where no block is given back.
     private boolean growing = false;
     private int fullHeaps = 0;
     private int lostBlocks = 0;
     private int givenBlocks = 0;
+    private int longestRun = 0;
 
     public static void main(String[] args) {
         new ModelTest().compareAll();
@@ -29,25 +37,45 @@ public final class ModelTest {
             compare(run);
         }
         check.about("the runs come to full heaps, lost blocks and blocks given back");
-        check.is("full heaps, " + fullHeaps, fullHeaps > 100, true);
-        check.is("lost blocks, " + lostBlocks, lostBlocks > 500, true);
+        check.is("full heaps, " + fullHeaps, fullHeaps > 1000, true);
+        check.is("lost blocks, " + lostBlocks, lostBlocks > 1000, true);
         check.is("blocks given back, " + givenBlocks, givenBlocks > 10000, true);
+        check.is("calls of the longest run, " + longestRun, longestRun > 450 && longestRun <= MOST_CALLS, true);
         check.done();
     }
 
     private void compare(int run) {
         heap = new CountedHeap();
         model = new Model();
+        calls = 0;
         growing = run % 2 == 0;
         for (int t = 0; t < 4; t++) {
             changeType();
         }
-        for (int call = 0; call < CALLS && check.allAsDue(); call++) {
-            check.about("made-up run " + run + ", call " + call);
-            callBoth();
-            lookAtAll();
+        if (growing) {
+            fill(1 + below(24));
         }
+        int limit = 20 + below(MOST_CALLS - CALLS_OF_LOOK - CALLS_OF_STEP - 20);
+        while (calls < limit && check.allAsDue()) {
+            check.about("made-up run " + run + ", behind call " + calls);
+            callBoth();
+            lookAtOne();
+        }
+        lookAtAll();
         givenBlocks += model.given();
+        longestRun = Math.max(longestRun, calls);
+    }
+
+    /** So many blocks, each pointing to the one before. */
+    private void fill(int length) {
+        int w = below(6);
+        typeBoth(0, 6, 1 << w | below(64));
+        clearBoth();
+        addBoth(9, 5, 0, 0);
+        addBoth(10, 24 + w, 4, 0);
+        addBoth(10, 4, 5, 0);
+        addBoth(7, 0, 0, 0);
+        runBoth(4 * length);
     }
 
     private void callBoth() {
@@ -55,57 +83,83 @@ public final class ModelTest {
         if (what < 60) {
             replaceProgram(1 + below(3));
             runBoth(3);
-        } else if (what < 70) {
+        } else if (what < 65) {
             replaceProgram(below(45));
             runBoth(below(520) - 10);
+        } else if (what < 75) {
+            addSome();
         } else if (what < 80) {
-            addBoth();
-        } else if (what < 85) {
             runBoth(below(30));
-        } else if (what < 89) {
-            int p = below(44) - 2;
-            check.is("start(" + p + ")", heap.start(p), model.start(p));
-        } else if (what < 93) {
-            int i = below(6) - 1;
-            int v = number();
-            check.is("set(" + i + ", " + v + ")", heap.set(i, v), model.set(i, v));
-        } else if (what < 97) {
+        } else if (what < 85) {
+            startBoth(below(44) - 2);
+        } else if (what < 90) {
+            setBoth(below(6) - 1, number());
+        } else if (what < 95) {
             changeType();
         } else {
-            int due = model.collect();
-            lostBlocks += due;
-            check.is("collect()", heap.collect(), due);
+            collectBoth();
         }
     }
 
     private void replaceProgram(int length) {
-        check.is("clear()", heap.clear(), model.clear());
+        clearBoth();
         for (int k = 0; k < length; k++) {
-            addBoth();
+            addSome();
         }
-    }
-
-    private void runBoth(int n) {
-        String due = model.outcome(n);
-        fullHeaps += due.equals("UnsupportedOperationException") && model.blocks() == 24 ? 1 : 0;
-        check.is("run(" + n + ")", Check.outcome(heap, n), due);
     }
 
     private void changeType() {
         int t = below(20) == 0 ? below(8) - 2 : below(4);
         int size = below(20) == 0 ? below(10) - 1 : 1 + below(6);
         int map = below(20) == 0 ? below(200) - 50 : below(1 << Math.max(1, Math.min(6, size)));
-        check.is("type(" + t + ", " + size + ", " + map + ")", heap.type(t, size, map), model.type(t, size, map));
+        typeBoth(t, size, map);
     }
 
-    private void addBoth() {
+    private void addSome() {
         int op = OPS[below(OPS.length)];
         boolean grow = growing && op >= 9 && op <= 11 && below(40) != 0;
         int x = grow ? sparePointer() : number(NUMBERS[op].charAt(0));
-        int y = number(NUMBERS[op].charAt(1));
-        int z = number(NUMBERS[op].charAt(2));
+        addBoth(op, x, number(NUMBERS[op].charAt(1)), number(NUMBERS[op].charAt(2)));
+    }
+
+    private void typeBoth(int t, int size, int map) {
+        calls++;
+        check.is("type(" + t + ", " + size + ", " + map + ")", heap.type(t, size, map), model.type(t, size, map));
+    }
+
+    private void addBoth(int op, int x, int y, int z) {
+        calls++;
         check.is("add(" + op + ", " + x + ", " + y + ", " + z + ")", heap.add(op, x, y, z),
             model.addSound(op, x, y, z));
+    }
+
+    private void clearBoth() {
+        calls++;
+        check.is("clear()", heap.clear(), model.clear());
+    }
+
+    private void startBoth(int p) {
+        calls++;
+        check.is("start(" + p + ")", heap.start(p), model.start(p));
+    }
+
+    private void runBoth(int n) {
+        calls++;
+        String due = model.outcome(n);
+        fullHeaps += due.equals("UnsupportedOperationException") && model.blocks() == 24 ? 1 : 0;
+        check.is("run(" + n + ")", Check.outcome(heap, n), due);
+    }
+
+    private void setBoth(int i, int v) {
+        calls++;
+        check.is("set(" + i + ", " + v + ")", heap.set(i, v), model.set(i, v));
+    }
+
+    private void collectBoth() {
+        calls++;
+        int due = model.collect();
+        lostBlocks += due;
+        check.is("collect()", heap.collect(), due);
     }
 
     private int number(char kind) {
@@ -149,23 +203,79 @@ public final class ModelTest {
         return below(2) == 0 ? edges[below(edges.length)] : below(2000000) * 1000 - 1000000000;
     }
 
+    /** Questions may not disturb what comes behind them either. */
+    private void lookAtOne() {
+        switch (below(6)) {
+            case 0:
+                lookAtCount(below(26));
+                break;
+            case 1:
+                lookAtWord(below(26), below(8) - 1);
+                break;
+            case 2:
+                lookAtRoot(below(6) - 1);
+                break;
+            case 3:
+                lookAtFrame(below(6) - 1);
+                break;
+            case 4:
+                lookAtLost();
+                break;
+            default:
+                lookAtNext();
+                break;
+        }
+    }
+
     private void lookAtAll() {
-        check.is("next()", heap.next(), model.next());
+        lookAtNext();
+        lookAtLost();
+        calls += 3;
         check.is("open()", heap.open(), model.open());
         check.is("blocks()", heap.blocks(), model.blocks());
         check.is("given()", heap.given(), model.given());
-        check.is("lost()", heap.lost(), model.lost());
         for (int i = -1; i <= 4; i++) {
-            check.is("frame", heap.frame(i), model.frame(i));
-            check.is("root", heap.root(i), model.root(i));
+            lookAtFrame(i);
+            lookAtRoot(i);
         }
         for (int b = 0; b <= 25; b++) {
-            check.is("count", heap.count(b), model.count(b));
+            lookAtCount(b);
+            calls++;
             check.is("typeOf", heap.typeOf(b), model.typeOf(b));
             for (int w = -1; w <= 6; w++) {
-                check.is("word", heap.word(b, w), model.word(b, w));
+                lookAtWord(b, w);
             }
         }
+    }
+
+    private void lookAtNext() {
+        calls++;
+        check.is("next()", heap.next(), model.next());
+    }
+
+    private void lookAtLost() {
+        calls++;
+        check.is("lost()", heap.lost(), model.lost());
+    }
+
+    private void lookAtFrame(int i) {
+        calls++;
+        check.is("frame(" + i + ")", heap.frame(i), model.frame(i));
+    }
+
+    private void lookAtRoot(int i) {
+        calls++;
+        check.is("root(" + i + ")", heap.root(i), model.root(i));
+    }
+
+    private void lookAtCount(int b) {
+        calls++;
+        check.is("count(" + b + ")", heap.count(b), model.count(b));
+    }
+
+    private void lookAtWord(int b, int w) {
+        calls++;
+        check.is("word(" + b + ", " + w + ")", heap.word(b, w), model.word(b, w));
     }
 
     private int below(int bound) {

@@ -96,9 +96,9 @@ public final class PromiseEdgesTest extends Bench {
 
     private static void bitsFromSizeOn() {
         CHECK.about("Promise 2: map has bits from size on (or is below 0)");
-        CountedHeap heap = new CountedHeap();
         int[] ends = {1, 3, 7, 15, 31, 63};
         for (int size = 1; size <= 6; size++) {
+            CountedHeap heap = new CountedHeap();
             for (int map = -70; map <= 140; map++) {
                 CHECK.is("type(1, " + size + ", " + map + ")", heap.type(1, size, map),
                     map >= 0 && map <= ends[size - 1]);
@@ -169,8 +169,8 @@ public final class PromiseEdgesTest extends Bench {
 
     /** Each op that has this kind of number, with each of the numbers there and 0 elsewhere. */
     private static void addEach(char kind, int[] numbers, boolean taken) {
-        CountedHeap heap = new CountedHeap();
         for (int op = 0; op <= 14; op++) {
+            CountedHeap heap = new CountedHeap();
             for (int at = 0; at < 3; at++) {
                 for (int k = 0; NUMBERS[op].charAt(at) == kind && k < numbers.length; k++) {
                     int[] n = new int[3];
@@ -256,14 +256,16 @@ public final class PromiseEdgesTest extends Bench {
 
     private static void clearOfNoneAndOfForty() {
         CHECK.about("Promise 4: There are no instructions any more: how many there were");
-        CountedHeap heap = new CountedHeap();
         for (int length = 0; length <= 40; length++) {
+            CountedHeap heap = new CountedHeap();
             for (int place = 0; place < length; place++) {
                 heap.add(0, 0, 0, 0);
             }
             CHECK.is("clear", heap.clear(), length);
             CHECK.runs(heap, 1, 0);
             CHECK.is("clear again", heap.clear(), 0);
+            CHECK.is("the first place is free", heap.add(0, 0, 0, 0), 0);
+            CHECK.is("clear of one", heap.clear(), 1);
         }
     }
 
@@ -557,20 +559,27 @@ public final class PromiseEdgesTest extends Bench {
 
     private static void noSuchBlockOrWord() {
         CHECK.about("Promise 15: 4294967296 if there is no such block or word");
-        CountedHeap heap = new CountedHeap();
-        heap.type(1, 6, 0);
-        doAll(heap, i(9, 4, 1, 0), i(9, 5, 1, 0), i(9, 6, 0, 0), i(11, 4, 0, 0));
         for (int b = -30; b <= 60; b++) {
+            CountedHeap heap = withBlocksTwoAndThree();
             for (int w = -10; w <= 20; w++) {
                 boolean word = w >= 0 && (b == 2 && w < 6 || b == 3 && w < 1);
                 CHECK.is("word(" + b + ", " + w + ")", heap.word(b, w), word ? 0 : NO_WORD);
             }
         }
+        CountedHeap heap = withBlocksTwoAndThree();
         for (int far : new int[] {LOW, HIGH}) {
             CHECK.is("word(2, " + far + ")", heap.word(2, far), NO_WORD);
             CHECK.is("word(" + far + ", 0)", heap.word(far, 0), NO_WORD);
             CHECK.is("word(" + far + ", " + far + ")", heap.word(far, far), NO_WORD);
         }
+    }
+
+    /** Block 2 has six words and block 3 one; block 1, of six words, is given back. */
+    private static CountedHeap withBlocksTwoAndThree() {
+        CountedHeap heap = new CountedHeap();
+        heap.type(1, 6, 0);
+        doAll(heap, i(9, 4, 1, 0), i(9, 5, 1, 0), i(9, 6, 0, 0), i(11, 4, 0, 0));
+        return heap;
     }
 
     private static void givenSinceTheBeginning() {
@@ -650,7 +659,7 @@ public final class PromiseEdgesTest extends Bench {
         }
         doAll(heap, i(9, 4, 0, 0));
         CHECK.is("a new one", picture(heap), "next 1 open 0 blocks 1 given 24 lost 0 F0 0 P0 1 F1 0 P1 0 F2 0 P2 0 "
-            + "F3 0 P3 0 block 1 of 0 count 1: 0 - - - - - - -");
+            + "F3 0 P3 0 block 1 of 0 count 1: 0");
     }
 
     private static void collectTogether() {

@@ -533,13 +533,9 @@ public final class TermsEdgesTest extends Bench {
     private static void faultIfNil() {
         CHECK.about("for 16 + 8 * k + w: IllegalStateException if Pk is nil");
         for (int k = 0; k < 4; k++) {
-            CountedHeap heap = new CountedHeap();
-            for (int other = 0; other < 4; other++) {
-                if (other != k) {
-                    doAll(heap, i(9, 4 + other, 0, 0));
-                }
-            }
             for (int w = 0; w < 8; w++) {
+                CountedHeap heap = new CountedHeap();
+                doAll(heap, i(9, 4, 0, 0), i(9, 5, 0, 0), i(9, 6, 0, 0), i(9, 7, 0, 0), i(11, 4 + k, 0, 0));
                 fault(heap, i(1, 16 + 8 * k + w, 1, 0), STATE);
                 fault(heap, i(2, 0, 16 + 8 * k + w, 0), STATE);
                 fault(heap, i(11, 16 + 8 * k + w, 0, 0), STATE);
@@ -551,11 +547,11 @@ public final class TermsEdgesTest extends Bench {
     private static void faultIfNoSuchWord() {
         CHECK.about("IndexOutOfBoundsException if the block has no word w");
         for (int size = 1; size <= 6; size++) {
-            CountedHeap heap = new CountedHeap();
-            heap.type(2, size, 0);
-            heap.type(3, size, (1 << size) - 1);
-            doAll(heap, i(9, 6, 2, 0), i(9, 7, 3, 0));
             for (int w = 0; w < 8; w++) {
+                CountedHeap heap = new CountedHeap();
+                heap.type(2, size, 0);
+                heap.type(3, size, (1 << size) - 1);
+                doAll(heap, i(9, 6, 2, 0), i(9, 7, 3, 0));
                 if (w < size) {
                     doAll(heap, i(1, 32 + w, 1, 0), i(2, 0, 32 + w, 0), i(11, 40 + w, 0, 0), i(12, 0, 4, 40 + w));
                 } else {
@@ -659,10 +655,10 @@ public final class TermsEdgesTest extends Bench {
     private static void faultIfTwentyFour() {
         CHECK.about("for 9: UnsupportedOperationException if there are 24 blocks (also if one would be given back)");
         doAll(chain(23), i(9, 6, 0, 0));
+        for (int pointer : new int[] {4, 5, 6, 7, 16, 24}) {
+            fault(chain(24), i(9, pointer, 0, 0), UNSUPPORTED);
+        }
         CountedHeap heap = chain(24);
-        fault(heap, i(9, 6, 0, 0), UNSUPPORTED);
-        fault(heap, i(9, 5, 0, 0), UNSUPPORTED);
-        fault(heap, i(9, 16, 0, 0), UNSUPPORTED);
         doAll(heap, i(11, 5, 0, 0));
         fault(heap, i(9, 4, 0, 0), UNSUPPORTED);
         doAll(heap, i(11, 4, 0, 0), i(9, 4, 0, 0));
@@ -679,10 +675,9 @@ public final class TermsEdgesTest extends Bench {
 
     private static void faultOfOperandBeforeRoom() {
         CHECK.about("faults of operands; Then, for 9: if there are 24 blocks");
-        CountedHeap heap = chain(24);
-        fault(heap, i(9, 32, 0, 0), STATE);
-        fault(heap, i(9, 17, 0, 0), INDEX);
-        fault(heap, i(9, 3, 0, 0), ARGUMENT);
+        fault(chain(24), i(9, 32, 0, 0), STATE);
+        fault(chain(24), i(9, 17, 0, 0), INDEX);
+        fault(chain(24), i(9, 3, 0, 0), ARGUMENT);
     }
 
     private static void faultIfStackFull() {

@@ -42,9 +42,8 @@ class Bench {
         replace(heap, instruction);
         String before = picture(heap);
         CHECK.faults(heap, 1, due);
-        CHECK.is("after a fault", picture(heap), before);
         CHECK.faults(heap, 500, due);
-        CHECK.is("after a fault again", picture(heap), before);
+        CHECK.is("after a fault", picture(heap), before);
     }
 
     /** Blocks 1 .. length of type 0 (one pointer), each pointing to the one before; P0 and P1 point to the last. */
@@ -68,22 +67,27 @@ class Bench {
     }
 
     /**
-     * All that can be asked of an object without a change, but for the types and the program. It asks more often
-     * than the 512 calls for which the document answers; this class keeps no count of calls.
+     * All that can be asked of an object without a change, but for the types and the program. It asks no more than
+     * it must, since an object is good for 512 calls: no words behind the first that there is none, and no blocks
+     * behind the last.
      */
     static String picture(CountedHeap heap) {
         StringBuilder all = new StringBuilder();
+        int blocks = heap.blocks();
         all.append("next ").append(heap.next()).append(" open ").append(heap.open());
-        all.append(" blocks ").append(heap.blocks()).append(" given ").append(heap.given());
+        all.append(" blocks ").append(blocks).append(" given ").append(heap.given());
         all.append(" lost ").append(heap.lost());
         for (int k = 0; k < 4; k++) {
             all.append(" F").append(k).append(' ').append(heap.frame(k));
             all.append(" P").append(k).append(' ').append(heap.root(k));
         }
-        for (int b = 1; b <= 24; b++) {
-            if (heap.count(b) != -1 || heap.typeOf(b) != -1) {
+        int seen = 0;
+        for (int b = 1; b <= 24 && seen < blocks; b++) {
+            int count = heap.count(b);
+            if (count != -1) {
+                seen++;
                 all.append(" block ").append(b).append(" of ").append(heap.typeOf(b));
-                all.append(" count ").append(heap.count(b)).append(':');
+                all.append(" count ").append(count).append(':');
                 appendWords(heap, b, all);
             }
         }
@@ -91,8 +95,10 @@ class Bench {
     }
 
     private static void appendWords(CountedHeap heap, int b, StringBuilder all) {
-        for (int w = 0; w < 8; w++) {
-            all.append(' ').append(heap.word(b, w) == NO_WORD ? "-" : Long.toString(heap.word(b, w)));
+        long word = heap.word(b, 0);
+        for (int w = 1; w <= 6 && word != NO_WORD; w++) {
+            all.append(' ').append(word);
+            word = heap.word(b, w);
         }
     }
 }
